@@ -590,7 +590,7 @@ public final class TongueRights {
     }
 
     private static boolean isDaysCopies(int daysCopies) {
-        return daysCopies >= 0 && within(daysCopies / 100000, 1, 3600);
+        return within(daysCopies / 100000, 1, 3600);
     }
 
     private int whyLapsed(Grant g, int daysCopies) {
@@ -1218,10 +1218,6 @@ public final class TongueRights {
         private void startSum() {
             sums[open] = 0;
             sumSigns[open] = '+';
-            startProduct();
-        }
-
-        private void startProduct() {
             products[open] = 1;
             productSigns[open] = '*';
         }
@@ -1236,7 +1232,8 @@ public final class TongueRights {
 
         private void closeProduct() {
             sums[open] += sumSigns[open] == '+' ? products[open] : -products[open];
-            startProduct();
+            products[open] = 1;
+            productSigns[open] = '*';
         }
 
         int startOf(int i) {

@@ -233,6 +233,10 @@ public final class GrantsTest {
         t.days(2);
         t.ends(4);
         Check.is("15: it held on DAY 21", t.overlap(4, 2), 21);
+        TongueRights u = Check.granted();
+        u.grant(4, 1);
+        u.ends(0);
+        Check.is("15: ENDED on DAY 0, it never held", u.overlap(4, 0), -2);
         Check.is("15: what 3", t.overlap(4, 3), -1);
         Check.is("15: what below 0", t.overlap(4, -1), -1);
         Check.is("15: no WORK", t.overlap(0, 0), -1);

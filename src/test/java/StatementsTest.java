@@ -344,11 +344,16 @@ public final class StatementsTest {
         Check.is("27: SUM falls", t.due(0, 2, 0), 116);
         Check.is("27: PAYABLE is not below 0", t.due(0, 2, 3), 0);
         Check.is("27: HELD as known ahead", t.due(0, 1, 2), 11);
+        t.set(7, 0);
+        t.set(8, 1);
+        t.grant(4, 1);
+        t.state(1, 1, 0, 10);
+        Check.is("27: HELD of 1, up", t.due(1, 2, 2), 1);
         Check.is("27: what 4", t.due(0, 0, 4), VOID);
         Check.is("27: what below 0", t.due(0, 0, -1), VOID);
         Check.is("27: k below 0", t.due(0, -1, 0), VOID);
         Check.is("27: k 3600", t.due(0, 3600, 0), VOID);
-        Check.is("27: no such", t.due(1, 0, 0), VOID);
+        Check.is("27: no such", t.due(2, 0, 0), VOID);
     }
 
     private static void dueIsHeld() {
