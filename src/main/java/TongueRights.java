@@ -95,7 +95,7 @@ public final class TongueRights {
 
     public int join(int bundle, int work, int worth) {
         Body whole = bodyOf(bundle, BUNDLE);
-        Body part = workAt(work);
+        Body part = bodyOf(work, WORK);
         if (whole == null || part == null || part.kind == BUNDLE) {
             return BAD;
         }
@@ -137,7 +137,7 @@ public final class TongueRights {
         if (what == 0) {
             return b.kind;
         }
-        if (b.isWork()) {
+        if (b.isUnder(WORK)) {
             return ofWork(b, what);
         }
         return what == 1 && b.kind != BODY ? b.coins : VOID;
@@ -167,14 +167,10 @@ public final class TongueRights {
         return within(n, 0, bodyCount - 1) ? bodies[n] : null;
     }
 
+    /** A BODY of a KIND or of one under it: a KIND's word takes these in, where the document says nothing else. */
     private Body bodyOf(int n, int kind) {
         Body b = bodyAt(n);
-        return b != null && b.kind == kind ? b : null;
-    }
-
-    private Body workAt(int n) {
-        Body b = bodyAt(n);
-        return b != null && b.isWork() ? b : null;
+        return b != null && b.isUnder(kind) ? b : null;
     }
 
     private int nextOf(Body w) {
@@ -199,9 +195,9 @@ public final class TongueRights {
     }
 
     public int grant(int work, int house) {
-        Body w = workAt(work);
-        Body h = bodyAt(house);
-        if (w == null || h == null || !h.isHouse() || !termsHold()) {
+        Body w = bodyOf(work, WORK);
+        Body h = bodyOf(house, HOUSE);
+        if (w == null || h == null || !termsHold()) {
             return BAD;
         }
         if (w.kind == BUNDLE && w.parts == 0) {
@@ -275,7 +271,7 @@ public final class TongueRights {
     }
 
     public int holder(int work, int where, int day, int k) {
-        Body w = workAt(work);
+        Body w = bodyOf(work, WORK);
         int tongue = where / 1000;
         int land = where % 1000 / 10;
         int form = where % 10;
@@ -296,7 +292,7 @@ public final class TongueRights {
     }
 
     public int overlap(int work, int what) {
-        Body w = workAt(work);
+        Body w = bodyOf(work, WORK);
         if (w == null || !within(what, 0, 2)) {
             return BAD;
         }
@@ -323,7 +319,7 @@ public final class TongueRights {
     }
 
     public int holes(int work, int tongue, int day) {
-        Body w = workAt(work);
+        Body w = bodyOf(work, WORK);
         if (w == null || !within(tongue, 0, MOST_TONGUE) || !isDay(day)) {
             return 0;
         }
@@ -349,7 +345,7 @@ public final class TongueRights {
     }
 
     public int cover(int work, int tongue, int day, int what) {
-        Body w = workAt(work);
+        Body w = bodyOf(work, WORK);
         if (w == null || !within(tongue, 0, MOST_TONGUE) || !isDay(day)) {
             return BAD;
         }
@@ -639,7 +635,7 @@ public final class TongueRights {
     }
 
     public int mustAsk(int work, int tongue, int day, int i) {
-        Body w = workAt(work);
+        Body w = bodyOf(work, WORK);
         if (w == null || !within(tongue, 0, MOST_TONGUE) || !isDay(day) || i < -1) {
             return BAD;
         }
@@ -811,8 +807,8 @@ public final class TongueRights {
     public int count(int what) {
         switch (what) {
             case 0: return bodyCount;
-            case 1: return countHouses();
-            case 2: return countWorks();
+            case 1: return countOf(HOUSE);
+            case 2: return countOf(WORK);
             case 3: return grantCount;
             case 4: return countNotEnded();
             case 5: return ledger.size;
@@ -824,19 +820,10 @@ public final class TongueRights {
         }
     }
 
-    private int countHouses() {
+    private int countOf(int kind) {
         int found = 0;
         for (int i = 0; i < bodyCount; i++) {
-            Body b = bodyAt(i);
-            found += b != null && b.isHouse() ? 1 : 0;
-        }
-        return found;
-    }
-
-    private int countWorks() {
-        int found = 0;
-        for (int i = 0; i < bodyCount; i++) {
-            found += workAt(i) != null ? 1 : 0;
+            found += bodyOf(i, kind) != null ? 1 : 0;
         }
         return found;
     }
@@ -898,17 +885,10 @@ public final class TongueRights {
             this.worths = new int[room];
         }
 
-        boolean isHouse() {
-            return kind == HOUSE || kind == AGENT || kind == SUB;
-        }
-
-        boolean isWork() {
-            return kind == WORK || kind == BUNDLE || kind == FILM;
-        }
-
+        /** Whether it is of a KIND, or of one under that. */
         boolean isUnder(int other) {
             int k = kind;
-            while (k > other && k > BODY && k < ABOVE.length) {
+            for (int i = 0; i < ABOVE.length && k > other && k > BODY && k < ABOVE.length; i++) {
                 k = ABOVE[k];
             }
             return k == other;

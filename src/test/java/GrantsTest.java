@@ -50,8 +50,12 @@ public final class GrantsTest {
         Check.is("11: to a SUB", t.grant(4, 3), 2);
         t.set(6, 3);
         Check.is("11: a SUB without AGENT", t.grant(4, 1), -1);
-        t.set(5, 3);
-        Check.is("11: a SUB is no AGENT", t.grant(4, 1), -1);
+        t.set(5, 1);
+        Check.is("11: a HOUSE is no AGENT", t.grant(4, 1), -1);
+        t.set(5, 0);
+        Check.is("11: an AUTHOR is no AGENT", t.grant(4, 1), -1);
+        t.set(5, 149);
+        Check.is("11: nobody as AGENT", t.grant(4, 1), -1);
         t.set(5, 2);
         t.set(6, 2);
         Check.is("11: an AGENT is no SUB", t.grant(4, 1), -1);
@@ -91,7 +95,30 @@ public final class GrantsTest {
         Check.is("11: the ADVANCE counts", t.count(8), 101);
         t.grant(4, 2);
         Check.is("11: an AGENT that pays itself, too", t.ofBody(2, 1), 14 - 101 + 14);
+        partedToSubs();
         partedBundle();
+    }
+
+    /** A SUB is under AGENT, and may be told as the AGENT. */
+    private static void partedToSubs() {
+        TongueRights t = Check.start();
+        t.body(3);
+        t.set(7, 101);
+        t.set(5, 5);
+        Check.is("11: a SUB as AGENT", t.grant(4, 1), 0);
+        Check.is("11: it is the AGENT", t.ofGrant(0, 7), 5);
+        Check.is("11: and no SUB is", t.ofGrant(0, 8), -1);
+        Check.is("11: it has an AGENT's part", t.ofBody(5, 1), 16);
+        Check.is("11: the AUTHOR has what is left of it", t.ofBody(0, 1), 85);
+        t.set(6, 3);
+        Check.is("11: a SUB as AGENT, and another as SUB", t.grant(4, 1), 1);
+        Check.is("11: the other one has a SUB's part", t.ofBody(3, 1), 11);
+        Check.is("11: the one an AGENT's", t.ofBody(5, 1), 16 + 14);
+        t.set(6, 5);
+        Check.is("11: one SUB as both", t.grant(4, 1), 2);
+        Check.is("11: it has both parts", t.ofBody(5, 1), 16 + 14 + 11 + 14);
+        Check.is("11: the HOUSE as its own AGENT", t.grant(4, 5), 3);
+        Check.is("11: it pays all and has both parts", t.ofBody(5, 1), 55 - 101 + 25);
     }
 
     private static void partedBundle() {

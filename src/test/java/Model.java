@@ -187,7 +187,7 @@ public final class Model {
         if (!isWork(work) || !is(house, 1, 2, 3) || by[3] > by[4]) {
             return BAD;
         }
-        if (by[5] != -1 && !is(by[5], 2) || by[6] != -1 && (by[5] == -1 || !is(by[6], 3))) {
+        if (by[5] != -1 && !is(by[5], 2, 3) || by[6] != -1 && (by[5] == -1 || !is(by[6], 3))) {
             return BAD;
         }
         if (is(work, 5) && bodies.get(work).works.isEmpty()) {

@@ -17,7 +17,7 @@ public final class ModelTest {
         "2 days 1..20", "2 days 1..130", "1 body 0..3", "1 body 6..6", "1 work 4..4 U 0..500", "1 work 7..7 U T",
         "1 bundle U 0..300", "3 join B V 1..5", "1 term 0..900", "3 ofBody X 0..5",
         "3 set 0..0 0..1", "2 set 1..1 1..255", "2 set 2..2 1..15", "2 set 3..3 T", "2 set 3..3 0..0", "2 set 4..4 T",
-        "3 set 4..4 300..3599", "1 set 5..5 4..4", "1 set 6..6 5..5", "4 set 5..6 -1..-1",
+        "3 set 4..4 300..3599", "1 set 5..5 4..5", "1 set 6..6 5..5", "4 set 5..6 -1..-1",
         "1 set 5..6 X",
         "2 set 7..7 0..3000", "2 set 8..8 0..50", "2 set 9..9 0..720", "4 grant W H", "4 grant B H", "1 grant V X",
         "1 ends G", "3 ofGrant G 0..15", "4 holder W R T 0..3599", "4 holder W R T T",
