@@ -29,12 +29,17 @@ final class Check {
     static void feed(TongueRights t, String text) {
         for (int i = 0; i < text.length(); i += 4) {
             int n = Math.min(4, text.length() - i);
-            int v = 0;
-            for (int j = 0; j < n; j++) {
-                v |= (text.charAt(i + j) & 255) << (8 * j);
-            }
-            t.feed(n, v);
+            t.feed(n, bytes(text, i, n));
         }
+    }
+
+    /** Up to four bytes of a text as feed() takes them, the lowest first. */
+    static int bytes(String text, int at, int n) {
+        int v = 0;
+        for (int j = 0; j < n; j++) {
+            v |= (text.charAt(at + j) & 255) << (8 * j);
+        }
+        return v;
     }
 
     static int steps(TongueRights t, int grant, String text) {

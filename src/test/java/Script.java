@@ -121,11 +121,7 @@ final class Script {
     private static void addFeeds(List<Object[]> found, String text) {
         for (int i = 0; i < text.length(); i += 4) {
             int n = Math.min(4, text.length() - i);
-            int v = 0;
-            for (int j = 0; j < n; j++) {
-                v |= (text.charAt(i + j) & 255) << (8 * j);
-            }
-            found.add(new Object[] {"feed", n, v});
+            found.add(new Object[] {"feed", n, Check.bytes(text, i, n)});
         }
     }
 
