@@ -59,6 +59,15 @@ final class Script {
         return script.look(null);
     }
 
+    /** Calls told as a text, each as its name and what it takes. */
+    static List<Object[]> callsOf(String text) {
+        Script script = new Script("calls");
+        for (String call : text.split(", *")) {
+            script.take(call);
+        }
+        return script.made;
+    }
+
     private static Map<String, Method> methods() {
         Map<String, Method> found = new HashMap<>();
         for (Method m : TongueRights.class.getMethods()) {
