@@ -5,8 +5,9 @@ import java.util.Comparator;
 import java.util.List;
 
 /**
- * Every call with every mix of numbers at and beyond the edges, on objects with something of everything: none throws, and
- * each answers as the model does (all promises).
+ * Every call with every mix of some far numbers, on objects with something of everything: none throws, and each answers
+ * as the model does (all promises). A call that takes one or two has the document's edges among them; one that takes more
+ * has a shorter list, lest the mixes be too many, and its edges are held by the other tests.
  */
 public final class FarNumbersTest {
     private static final int MOST_CALLS = 512;
@@ -58,7 +59,7 @@ public final class FarNumbersTest {
             }
             Object[] arguments = new Object[call.length - 1];
             System.arraycopy(call, 1, arguments, 0, arguments.length);
-            same(i, arguments);
+            Check.holds(call[0] + " ahead of the far numbers is as the model has it", same(i, arguments));
         }
         calls = start.size();
     }
